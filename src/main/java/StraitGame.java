@@ -1349,6 +1349,8 @@ public final class StraitGame {
      * rows of lengths (159), so all are looked at.
      */
     private static final class Codes {
+        private static final int TOO_MANY = MAX_NUMBERS * MAX_NUMBERS * MAX_OFTEN + 1;
+
         int count = 0;
         int total = 0;
         final int[] lengths = new int[MAX_NUMBERS];
@@ -1368,7 +1370,7 @@ public final class StraitGame {
                 total = often[0];
             } else if (count > 1) {
                 sortByOften();
-                total = Integer.MAX_VALUE;
+                total = TOO_MANY;
                 spread(0, 1, 0);
             }
         }
@@ -1513,7 +1515,7 @@ public final class StraitGame {
         }
 
         /** From a NIGHT on, so many flashes being settled: these lost. The BOARDS ahead of it stand in row settled. */
-        void goOn(int from, int settled, int lost) {
+        private void goOn(int from, int settled, int lost) {
             for (int night = from; night < nights.count; night++) {
                 if (nights.flasher[night] != NONE && settled < STORM_NIGHTS) {
                     for (int squall = 0; squall <= 1; squall++) {
