@@ -40,42 +40,42 @@ public final class BoardTest {
 
     private static void leaps() {
         String knight = "board 5 by 5;piece n leap 1 2;white n at 2 2;";
-        moves(Check.play(knight), "12>1 12>3 12>5 12>9 12>15 12>19 12>21 12>23");
-        moves(Check.play(knight + "white n at 1 0;black n at 3 0;"),
+        CHECK.moves(Check.play(knight), "12>1 12>3 12>5 12>9 12>15 12>19 12>21 12>23");
+        CHECK.moves(Check.play(knight + "white n at 1 0;black n at 3 0;"),
             "1>8 1>10 12>3 12>5 12>9 12>15 12>19 12>21 12>23");
         StraitGame x = Check.play(knight + "black n at 3 0;");
         CHECK.due("move(0, 1, 2)", x.move(0, 1, 2), 1);
         CHECK.due("move(0, 0, 2)", x.move(0, 0, 2), -1);
-        moves(Check.play("board 5 by 1;piece a leap 0 4;white a at 0 0;"), "0>4");
-        moves(Check.play("board 3 by 3;piece a leap 1 0 leap 1 1;white a at 0 0;"), "0>1 0>3 0>4");
+        CHECK.moves(Check.play("board 5 by 1;piece a leap 0 4;white a at 0 0;"), "0>4");
+        CHECK.moves(Check.play("board 3 by 3;piece a leap 1 0 leap 1 1;white a at 0 0;"), "0>1 0>3 0>4");
     }
 
     private static void rides() {
-        moves(Check.play("board 4 by 3;piece r ride 1 0;white r at 1 1;black r at 3 1;white r at 1 2;"),
+        CHECK.moves(Check.play("board 4 by 3;piece r ride 1 0;white r at 1 1;black r at 3 1;white r at 1 2;"),
             "5>1 5>4 5>6 5>7 9>8 9>10 9>11");
-        moves(Check.play("board 5 by 6;piece r ride 0 2;white r at 0 0;"), "0>2 0>4 0>10 0>20");
-        moves(Check.play("board 5 by 6;piece r ride 0 2;white r at 0 0;black r at 1 0;black r at 2 0;"), "0>2 0>10 0>20");
-        moves(Check.play("board 4 by 4;piece b ride 1 1;white b at 0 0;black b at 2 2;"), "0>5 0>10");
+        CHECK.moves(Check.play("board 5 by 6;piece r ride 0 2;white r at 0 0;"), "0>2 0>4 0>10 0>20");
+        CHECK.moves(Check.play("board 5 by 6;piece r ride 0 2;white r at 0 0;black r at 1 0;black r at 2 0;"), "0>2 0>10 0>20");
+        CHECK.moves(Check.play("board 4 by 4;piece b ride 1 1;white b at 0 0;black b at 2 2;"), "0>5 0>10");
     }
 
     private static void nightRides() {
-        moves(Check.play("board 5 by 6;piece n ride 1 2;white n at 0 0;"), "0>7 0>11 0>14 0>22");
-        moves(Check.play("board 5 by 6;piece n ride 1 2;piece o;white n at 0 0;white o at 1 2;black o at 2 1;"), "0>7");
+        CHECK.moves(Check.play("board 5 by 6;piece n ride 1 2;white n at 0 0;"), "0>7 0>11 0>14 0>22");
+        CHECK.moves(Check.play("board 5 by 6;piece n ride 1 2;piece o;white n at 0 0;white o at 1 2;black o at 2 1;"), "0>7");
     }
 
     private static void forwards() {
         String board = "board 3 by 3;piece p forward;";
-        moves(Check.play(board + "white p at 1 1;"), "4>7");
-        moves(Check.play(board + "white p at 1 1;black p at 1 2;"), "");
-        moves(Check.play(board + "white p at 1 1;black p at 0 2;black p at 2 2;"), "4>6 4>7 4>8");
-        moves(Check.play(board + "white p at 1 1;black p at 0 2;white p at 2 2;"), "4>6 4>7");
-        moves(Check.play(board + "white p at 1 2;black p at 0 1;"), "");
+        CHECK.moves(Check.play(board + "white p at 1 1;"), "4>7");
+        CHECK.moves(Check.play(board + "white p at 1 1;black p at 1 2;"), "");
+        CHECK.moves(Check.play(board + "white p at 1 1;black p at 0 2;black p at 2 2;"), "4>6 4>7 4>8");
+        CHECK.moves(Check.play(board + "white p at 1 1;black p at 0 2;white p at 2 2;"), "4>6 4>7");
+        CHECK.moves(Check.play(board + "white p at 1 2;black p at 0 1;"), "");
         StraitGame x = Check.play(board + "white p at 1 0;black p at 1 2;black p at 0 2;");
         CHECK.due("night(0, 0, true)", x.night(0, 0, true), 0);
-        moves(x, "6>3 6>4");
+        CHECK.moves(x, "6>3 6>4");
         CHECK.due("move(1, 1, 2)", x.move(1, 1, 2), 0);
         CHECK.due("night(1, 0, true)", x.night(1, 0, true), 1);
-        moves(x, "");
+        CHECK.moves(x, "");
         CHECK.due("lost(0): blocked", x.lost(0), 0);
         x.undo();
         CHECK.due("night(1, 1, true)", x.night(1, 1, true), 1);
@@ -84,8 +84,8 @@ public final class BoardTest {
     }
 
     private static void eachOnce() {
-        moves(Check.play("board 3 by 1;piece a leap 1 0 leap 0 1 ride 0 1 ride 1 0 leap 2 0;white a at 0 0;"), "0>1 0>2");
-        moves(Check.play("board 1 by 2;piece a leap 1 0 forward;white a at 0 0;"), "0>1");
+        CHECK.moves(Check.play("board 3 by 1;piece a leap 1 0 leap 0 1 ride 0 1 ride 1 0 leap 2 0;white a at 0 0;"), "0>1 0>2");
+        CHECK.moves(Check.play("board 1 by 2;piece a leap 1 0 forward;white a at 0 0;"), "0>1");
     }
 
     private static void wrongMoves() {
@@ -106,12 +106,12 @@ public final class BoardTest {
         CHECK.due("lost(0)", x.lost(0), -1);
         x.night(0, 0, true);
         CHECK.due("lost(0): a king is left", x.lost(0), -1);
-        moves(x, "2>1");
+        CHECK.moves(x, "2>1");
         x.night(1, 0, true);
         CHECK.due("lost(0): white has none", x.lost(0), 0);
         CHECK.due("lost(1)", x.lost(1), 0);
         CHECK.due("turn(0)", x.turn(0), 0);
-        moves(x, "");
+        CHECK.moves(x, "");
         StraitGame y = Check.play("board 3 by 1;piece k king leap 1 0;piece a leap 1 0;white k at 0 0;black k at 1 0;black a at 2 0;");
         y.night(0, 0, true);
         CHECK.due("moves(0): black has none", y.moves(0), 0);
@@ -168,14 +168,5 @@ public final class BoardTest {
         StraitGame z = Check.play("board 5 by 6;piece q ride 1 0 ride 1 1;white q at 0 0;white q at 1 0;white q at 2 0;"
             + "black q at 0 5;black q at 1 5;black q at 2 5;");
         CHECK.due("value(0, 4)", z.value(0, 4), -2);
-    }
-
-    /** All MOVES of keeper 0's BOARD, as from>to. */
-    private static void moves(StraitGame x, String due) {
-        StringBuilder all = new StringBuilder();
-        for (int i = 0; i < x.moves(0); i++) {
-            all.append(i > 0 ? " " : "").append(x.move(0, i, 0)).append('>').append(x.move(0, i, 1));
-        }
-        CHECK.due("MOVES " + all + " for " + due, all.toString().equals(due), true);
     }
 }

@@ -69,31 +69,31 @@ public final class ModelTest {
     }
 
     private String playOn() throws ReflectiveOperationException {
-        int keeper = real.turn(0) == 0 ? 0 : 1;
-        if (real.turn(0) != real.turn(1) && random.nextInt(4) > 0) {
+        int keeper = plain.turn(0) == 0 ? 0 : 1;
+        if (plain.turn(0) != plain.turn(1) && random.nextInt(4) > 0) {
             return random.nextInt(3) > 0 ? call("undo") : call("back", random.nextInt(3));
         }
         if (random.nextInt(12) == 0) {
             return call("blank");
         }
-        int moves = real.moves(keeper);
+        int moves = plain.moves(keeper);
         return call("night", keeper, moves > 0 ? random.nextInt(moves) : 0, random.nextInt(8) > 0);
     }
 
     /** One that mostly is so, as else no sets would be left. */
     private String tellSight() throws ReflectiveOperationException {
-        int nights = real.about(3);
-        int squares = Math.max(1, real.about(0));
+        int nights = plain.about(3);
+        int squares = Math.max(1, plain.about(0));
         int square = random.nextInt(squares);
         int keeper = random.nextInt(2);
-        int man = real.at(keeper, square);
+        int man = plain.at(keeper, square);
         if (random.nextInt(6) == 0) {
             man = random.nextInt(5) - 1;
         }
         int night = random.nextInt(5) > 0 ? nights - 1 : random.nextInt(nights + 1);
         String wrong = call("sight", night, keeper, square, man < 0 ? -1 : man / 2, man < 0 ? 0 : man % 2);
         if (wrong == null && random.nextInt(3) == 0) {
-            wrong = call("untell", random.nextInt(real.about(5) + 1));
+            wrong = call("untell", random.nextInt(plain.about(5) + 1));
         }
         return wrong != null || random.nextInt(2) == 0 ? wrong : call("later", random.nextInt(3));
     }

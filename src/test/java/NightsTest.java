@@ -26,10 +26,10 @@ public final class NightsTest {
         }
         CHECK.due("differ()", x.differ(), 0);
         CHECK.due("since()", x.since(), -1);
-        book(x, 0, 0, 0, 1, 0);
-        book(x, 1, 1, 1, 1, 0);
-        book(x, 2, -2, -2, -2, -2);
-        book(x, -1, -2, -2, -2, -2);
+        CHECK.book(x, 0, 0, 0, 1, 0);
+        CHECK.book(x, 1, 1, 1, 1, 0);
+        CHECK.book(x, 2, -2, -2, -2, -2);
+        CHECK.book(x, -1, -2, -2, -2, -2);
         CHECK.due("book(0, 4)", x.book(0, 4), -2);
         CHECK.due("book(0, -1)", x.book(0, -1), -2);
         CHECK.due("about(9)", x.about(9), 0);
@@ -39,8 +39,8 @@ public final class NightsTest {
         StraitGame x = Check.play(KINGS);
         CHECK.due("blank()", x.blank(), 0);
         CHECK.due("night(0, 1, false)", x.night(0, 1, false), 1);
-        book(x, 0, -1, -1, 0, 0);
-        book(x, 1, 0, 1, 0, 0);
+        CHECK.book(x, 0, -1, -1, 0, 0);
+        CHECK.book(x, 1, 0, 1, 0, 0);
         CHECK.due("at(0, 4)", x.at(0, 4), 0);
         CHECK.due("at(1, 4)", x.at(1, 4), -1);
         CHECK.due("at(1, 0)", x.at(1, 0), 0);
@@ -135,12 +135,5 @@ public final class NightsTest {
         CHECK.due("night(0, 0, true)", x.night(0, 0, true), 0);
         CHECK.due("differ()", x.differ(), 0);
         CHECK.due("book(0, 2)", x.book(0, 2), 1);
-    }
-
-    private static void book(StraitGame x, int night, int who, int number, int heard, int noticed) {
-        CHECK.due("book(" + night + ", 0)", x.book(night, 0), who);
-        CHECK.due("book(" + night + ", 1)", x.book(night, 1), number);
-        CHECK.due("book(" + night + ", 2)", x.book(night, 2), heard);
-        CHECK.due("book(" + night + ", 3)", x.book(night, 3), noticed);
     }
 }

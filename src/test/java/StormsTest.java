@@ -17,17 +17,10 @@ public final class StormsTest {
         CHECK.end();
     }
 
-    private static void storms(StraitGame x, int k, int sets, int lost, int heard, int fewest) {
-        CHECK.due("storms(0, " + k + ")", x.storms(0, k), sets);
-        CHECK.due("storms(1, " + k + ")", x.storms(1, k), lost);
-        CHECK.due("storms(2, " + k + ")", x.storms(2, k), heard);
-        CHECK.due("storms(3, " + k + ")", x.storms(3, k), fewest);
-    }
-
     private static void withoutNights() {
         StraitGame x = Check.play(KINGS);
-        storms(x, 0, 1, 0, 0, 0);
-        storms(x, -5, 1, 0, 0, 0);
+        CHECK.storms(x, 0, 1, 0, 0, 0);
+        CHECK.storms(x, -5, 1, 0, 0, 0);
         CHECK.due("storms(4, 0)", x.storms(4, 0), -2);
         CHECK.due("storms(-1, 0)", x.storms(-1, 0), -2);
         CHECK.due("sight: no NIGHT was", x.sight(0, 0, 0, 0, 0), -1);
@@ -89,17 +82,17 @@ public final class StormsTest {
     private static void lastFlash() {
         StraitGame x = Check.play(KINGS);
         x.night(0, 0, true);
-        storms(x, 0, 2, 0, 0, 0);
+        CHECK.storms(x, 0, 2, 0, 0, 0);
         x.night(1, 0, true);
         x.night(0, 1, true);
-        storms(x, 0, 2, 0, 3, 0);
+        CHECK.storms(x, 0, 2, 0, 3, 0);
         CHECK.due("sight: it was heard", x.sight(2, 1, 2, 0, 0), 0);
-        storms(x, 0, 1, 0, 7, 0);
+        CHECK.storms(x, 0, 1, 0, 7, 0);
         x.untell(0);
         CHECK.due("sight: it was lost", x.sight(2, 1, 1, 0, 0), 1);
-        storms(x, 0, 1, 4, 3, 1);
+        CHECK.storms(x, 0, 1, 4, 3, 1);
         CHECK.due("sight: both can't be", x.sight(2, 1, 2, 0, 0), 2);
-        storms(x, 0, 0, 0, 0, -1);
+        CHECK.storms(x, 0, 0, 0, 0, -1);
     }
 
     private static void knownInTwoTimes() {
@@ -107,36 +100,36 @@ public final class StormsTest {
         x.later(5);
         x.night(0, 0, false);
         CHECK.due("sight", x.sight(0, 1, 0, 0, 0), 0);
-        storms(x, 4, 2, 0, 0, 0);
-        storms(x, 5, 1, 1, 0, 1);
-        storms(x, 999999, 1, 1, 0, 1);
+        CHECK.storms(x, 4, 2, 0, 0, 0);
+        CHECK.storms(x, 5, 1, 1, 0, 1);
+        CHECK.storms(x, 999999, 1, 1, 0, 1);
         x.later(2);
         CHECK.due("untell(0)", x.untell(0), true);
-        storms(x, 6, 1, 1, 0, 1);
-        storms(x, 7, 2, 0, 0, 0);
+        CHECK.storms(x, 6, 1, 1, 0, 1);
+        CHECK.storms(x, 7, 2, 0, 0, 0);
         CHECK.due("sight", x.sight(0, 1, 1, 0, 0), 1);
-        storms(x, 7, 1, 0, 1, 0);
-        storms(x, 6, 1, 1, 0, 1);
+        CHECK.storms(x, 7, 1, 0, 1, 0);
+        CHECK.storms(x, 6, 1, 1, 0, 1);
         CHECK.due("untell(1) at its own TIME", x.untell(1), true);
-        storms(x, 7, 2, 0, 0, 0);
+        CHECK.storms(x, 7, 2, 0, 0, 0);
     }
 
     private static void noSets() {
         StraitGame x = Check.play(KINGS);
         x.night(0, 0, true);
         x.sight(0, 0, 0, 0, 0);
-        storms(x, 0, 0, 0, 0, -1);
+        CHECK.storms(x, 0, 0, 0, 0, -1);
         x.untell(0);
         x.sight(0, 0, 1, 0, 1);
-        storms(x, 0, 0, 0, 0, -1);
+        CHECK.storms(x, 0, 0, 0, 0, -1);
         x.untell(1);
         x.sight(0, 0, 1, 1, 0);
-        storms(x, 0, 0, 0, 0, -1);
+        CHECK.storms(x, 0, 0, 0, 0, -1);
         x.untell(2);
         x.sight(0, 0, 1, -1, 0);
-        storms(x, 0, 0, 0, 0, -1);
+        CHECK.storms(x, 0, 0, 0, 0, -1);
         x.untell(3);
-        storms(x, 0, 2, 0, 0, 0);
+        CHECK.storms(x, 0, 2, 0, 0, 0);
     }
 
     /** Only the first ten are asked; what comes behind them stays as it was. */
@@ -145,9 +138,9 @@ public final class StormsTest {
         for (int n = 0; n < 10; n++) {
             x.night(n % 2, n % 4 < 2 ? 0 : x.moves(n % 2) - 1, true);
         }
-        storms(x, 0, 2, 0, 511, 0);
+        CHECK.storms(x, 0, 2, 0, 511, 0);
         x.night(0, 0, false);
-        storms(x, 0, 1, 0, 1023, 0);
+        CHECK.storms(x, 0, 1, 0, 1023, 0);
     }
 
     private static void blankNights() {
@@ -156,11 +149,11 @@ public final class StormsTest {
         x.blank();
         x.night(0, 0, true);
         x.blank();
-        storms(x, 0, 2, 0, 0, 0);
+        CHECK.storms(x, 0, 2, 0, 0, 0);
         CHECK.due("sight behind NIGHT 1", x.sight(1, 1, 0, 0, 0), 0);
-        storms(x, 0, 2, 0, 0, 0);
+        CHECK.storms(x, 0, 2, 0, 0, 0);
         CHECK.due("sight behind NIGHT 3", x.sight(3, 1, 0, 0, 0), 1);
-        storms(x, 0, 1, 1, 0, 1);
+        CHECK.storms(x, 0, 1, 1, 0, 1);
     }
 
     /** A SIGHT behind a NIGHT that was taken back asks nothing, till there is such a NIGHT again. */
@@ -169,11 +162,11 @@ public final class StormsTest {
         x.night(0, 0, true);
         x.blank();
         x.sight(1, 1, 0, 0, 0);
-        storms(x, 0, 1, 1, 0, 1);
+        CHECK.storms(x, 0, 1, 1, 0, 1);
         x.undo();
-        storms(x, 0, 2, 0, 0, 0);
+        CHECK.storms(x, 0, 2, 0, 0, 0);
         CHECK.due("about(5)", x.about(5), 1);
         x.redo();
-        storms(x, 0, 1, 1, 0, 1);
+        CHECK.storms(x, 0, 1, 1, 0, 1);
     }
 }

@@ -69,21 +69,21 @@ public final class TextTest {
     }
 
     private static void soundTexts() {
-        sound("", 0, 0, 0);
-        sound(" \n ", 0, 0, 0);
-        sound("board 5 by 6;", 30, 0, 0);
-        sound("board 0005 by 0006 ;", 30, 0, 0);
-        sound("board1 by1;", 1, 0, 0);
-        sound("board\n1\nby\n1\n;\n", 1, 0, 0);
-        sound(BOARD + "piece a;", 9, 1, 0);
-        sound(BOARD + "piece a king;piece kings;piece b king;", 9, 3, 0);
-        sound(BOARD + "piece abcdefgh king forward;white abcdefgh at 0 0;", 9, 1, 1);
-        sound(BOARD + "piece ab;piece a;piece abc;white abc at 0 0;black a at 1 0;", 9, 3, 2);
-        sound(BOARD + "piece a leap0 4 ride4 0 forward;", 9, 1, 0);
-        sound(BOARD + "piece a leap 0 1 leap 0 1 ride 4 4 forward ride 1 2 leap 3 3 leap 2 1;", 9, 1, 0);
-        sound(BOARD + "flash 1 2 3 4 5 6 7 8 9 10 11 999;", 9, 0, 0);
-        sound(BOARD + "flash 1;piece a;white a at 0 0;", 9, 1, 1);
-        sound("board 3 by 4;piece a;piece b;piece c;piece d;piece e;piece f;" + twelve("a"), 12, 6, 12);
+        CHECK.sound("", 0, 0, 0);
+        CHECK.sound(" \n ", 0, 0, 0);
+        CHECK.sound("board 5 by 6;", 30, 0, 0);
+        CHECK.sound("board 0005 by 0006 ;", 30, 0, 0);
+        CHECK.sound("board1 by1;", 1, 0, 0);
+        CHECK.sound("board\n1\nby\n1\n;\n", 1, 0, 0);
+        CHECK.sound(BOARD + "piece a;", 9, 1, 0);
+        CHECK.sound(BOARD + "piece a king;piece kings;piece b king;", 9, 3, 0);
+        CHECK.sound(BOARD + "piece abcdefgh king forward;white abcdefgh at 0 0;", 9, 1, 1);
+        CHECK.sound(BOARD + "piece ab;piece a;piece abc;white abc at 0 0;black a at 1 0;", 9, 3, 2);
+        CHECK.sound(BOARD + "piece a leap0 4 ride4 0 forward;", 9, 1, 0);
+        CHECK.sound(BOARD + "piece a leap 0 1 leap 0 1 ride 4 4 forward ride 1 2 leap 3 3 leap 2 1;", 9, 1, 0);
+        CHECK.sound(BOARD + "flash 1 2 3 4 5 6 7 8 9 10 11 999;", 9, 0, 0);
+        CHECK.sound(BOARD + "flash 1;piece a;white a at 0 0;", 9, 1, 1);
+        CHECK.sound("board 3 by 4;piece a;piece b;piece c;piece d;piece e;piece f;" + twelve("a"), 12, 6, 12);
     }
 
     private static String twelve(String name) {
@@ -96,98 +96,98 @@ public final class TextTest {
     }
 
     private static void tokens() {
-        fault("^?", 1);
-        fault("^B", 1);
-        fault("^\t", 1);
-        fault("  ^\u00e9", 1);
-        fault("^\u0000", 1);
-        fault("^abcdefghi", 1);
-        fault("^abcdefgh", 2);
-        fault("^1", 2);
-        fault("^12345", 1);
-        fault("^1a", 1);
-        fault("board ^1by 1;", 1);
-        fault("board ^00001 by 1;", 1);
-        fault("board ^9x", 1);
-        fault("board 1 by 1^,;", 1);
-        fault("board ^-1 by 1;", 1);
-        fault("^;", 2);
-        fault("^boardby", 2);
-        fault("^boards 1 by 1;", 2);
-        fault(BOARD + "piece ^abcdefghi;", 1);
-        fault(BOARD + "^pieces a;", 2);
+        CHECK.fault("^?", 1);
+        CHECK.fault("^B", 1);
+        CHECK.fault("^\t", 1);
+        CHECK.fault("  ^\u00e9", 1);
+        CHECK.fault("^\u0000", 1);
+        CHECK.fault("^abcdefghi", 1);
+        CHECK.fault("^abcdefgh", 2);
+        CHECK.fault("^1", 2);
+        CHECK.fault("^12345", 1);
+        CHECK.fault("^1a", 1);
+        CHECK.fault("board ^1by 1;", 1);
+        CHECK.fault("board ^00001 by 1;", 1);
+        CHECK.fault("board ^9x", 1);
+        CHECK.fault("board 1 by 1^,;", 1);
+        CHECK.fault("board ^-1 by 1;", 1);
+        CHECK.fault("^;", 2);
+        CHECK.fault("^boardby", 2);
+        CHECK.fault("^boards 1 by 1;", 2);
+        CHECK.fault(BOARD + "piece ^abcdefghi;", 1);
+        CHECK.fault(BOARD + "^pieces a;", 2);
     }
 
     private static void boards() {
-        fault("^by", 2);
-        fault("^piece a;", 2);
-        fault("^white a at 0 0;", 2);
-        fault("^flash 1;", 2);
-        fault("board^", 2);
-        fault("board ^by 1;", 2);
-        fault("board ^0 by 1;", 4);
-        fault("board ^6 by 1;", 4);
-        fault("board 1 ^1;", 2);
-        fault("board 1 by ^0;", 4);
-        fault("board 1 by ^7;", 4);
-        fault("board 1 by ^;", 2);
-        fault("board 1 by 1^", 2);
-        fault("board 1 by 1 \n^", 2);
-        fault("board 1 by 1 ^1;", 2);
-        fault(BOARD + "^board 3 by 3;", 2);
-        fault(BOARD + "^board ?", 2);
-        fault(BOARD + "^;", 2);
+        CHECK.fault("^by", 2);
+        CHECK.fault("^piece a;", 2);
+        CHECK.fault("^white a at 0 0;", 2);
+        CHECK.fault("^flash 1;", 2);
+        CHECK.fault("board^", 2);
+        CHECK.fault("board ^by 1;", 2);
+        CHECK.fault("board ^0 by 1;", 4);
+        CHECK.fault("board ^6 by 1;", 4);
+        CHECK.fault("board 1 ^1;", 2);
+        CHECK.fault("board 1 by ^0;", 4);
+        CHECK.fault("board 1 by ^7;", 4);
+        CHECK.fault("board 1 by ^;", 2);
+        CHECK.fault("board 1 by 1^", 2);
+        CHECK.fault("board 1 by 1 \n^", 2);
+        CHECK.fault("board 1 by 1 ^1;", 2);
+        CHECK.fault(BOARD + "^board 3 by 3;", 2);
+        CHECK.fault(BOARD + "^board ?", 2);
+        CHECK.fault(BOARD + "^;", 2);
     }
 
     private static void pieces() {
-        fault(BOARD + "piece ^;", 2);
-        fault(BOARD + "piece ^1;", 2);
+        CHECK.fault(BOARD + "piece ^;", 2);
+        CHECK.fault(BOARD + "piece ^1;", 2);
         for (String word : "board by piece king leap ride forward white black at flash".split(" ")) {
-            fault(BOARD + "piece ^" + word + ";", 2);
+            CHECK.fault(BOARD + "piece ^" + word + ";", 2);
         }
-        fault(BOARD + "piece a;piece b;piece ^a;", 3);
-        fault(BOARD + "piece a king ^king;", 2);
-        fault(BOARD + "piece a leap 0 1 ^king;", 2);
-        fault(BOARD + "piece a forward ^forward;", 2);
-        fault(BOARD + "piece a leap ^5 1;", 4);
-        fault(BOARD + "piece a leap 1 ^5;", 4);
-        fault(BOARD + "piece a ride 0 ^0;", 4);
-        fault(BOARD + "piece a ride 0 ^;", 2);
-        fault(BOARD + "piece a leap 1 1 ^1;", 2);
-        fault(BOARD + "piece a leap 1 1 ride 1 1 leap 1 1 ride 1 1 leap 1 1 ride 1 1 ^ride 9 9;", 2);
-        fault(BOARD + "piece a leap 1 1 ride 1 1 leap 1 1 ride 1 1 leap 1 1 ride 1 1 forward ^leap 1 1;", 2);
-        fault(BOARD + "piece a leap 1 1 ride 1 1 leap 1 1 ride 1 1 leap 1 1 ride 1 1 forward ^forward;", 2);
-        fault(BOARD + "piece a ^b;", 2);
-        fault(BOARD + "piece a leap 1 1^", 2);
-        fault(BOARD + "piece a;piece b;piece c;piece d;piece e;piece f;^piece f;", 2);
+        CHECK.fault(BOARD + "piece a;piece b;piece ^a;", 3);
+        CHECK.fault(BOARD + "piece a king ^king;", 2);
+        CHECK.fault(BOARD + "piece a leap 0 1 ^king;", 2);
+        CHECK.fault(BOARD + "piece a forward ^forward;", 2);
+        CHECK.fault(BOARD + "piece a leap ^5 1;", 4);
+        CHECK.fault(BOARD + "piece a leap 1 ^5;", 4);
+        CHECK.fault(BOARD + "piece a ride 0 ^0;", 4);
+        CHECK.fault(BOARD + "piece a ride 0 ^;", 2);
+        CHECK.fault(BOARD + "piece a leap 1 1 ^1;", 2);
+        CHECK.fault(BOARD + "piece a leap 1 1 ride 1 1 leap 1 1 ride 1 1 leap 1 1 ride 1 1 ^ride 9 9;", 2);
+        CHECK.fault(BOARD + "piece a leap 1 1 ride 1 1 leap 1 1 ride 1 1 leap 1 1 ride 1 1 forward ^leap 1 1;", 2);
+        CHECK.fault(BOARD + "piece a leap 1 1 ride 1 1 leap 1 1 ride 1 1 leap 1 1 ride 1 1 forward ^forward;", 2);
+        CHECK.fault(BOARD + "piece a ^b;", 2);
+        CHECK.fault(BOARD + "piece a leap 1 1^", 2);
+        CHECK.fault(BOARD + "piece a;piece b;piece c;piece d;piece e;piece f;^piece f;", 2);
     }
 
     private static void men() {
         String piece = BOARD + "piece a;";
-        fault(piece + "white ^b at 0 0;", 5);
-        fault(piece + "white ^aa at 0 0;", 5);
-        fault(piece + "white ^at at 0 0;", 2);
-        fault(piece + "white a ^0 0;", 2);
-        fault(piece + "white a at ^3 0;", 4);
-        fault(piece + "black a at 0 ^3;", 4);
-        fault(piece + "black a at ^;", 2);
-        fault(piece + "white a at 1 1;black a at 1 ^1;", 3);
-        fault(piece + "white a at 1 1;black a at 1 ^1x;", 1);
-        fault(piece + "white a at 1 1;black a at 1 ^1 ?", 3);
-        fault(BOARD + "white ^a at 0 0;piece a;", 5);
-        fault("board 3 by 5;piece a;" + twelve("a") + "^white a at 0 4;", 2);
-        fault("board 3 by 5;piece a;" + twelve("a") + "^black b at 9 9;", 2);
+        CHECK.fault(piece + "white ^b at 0 0;", 5);
+        CHECK.fault(piece + "white ^aa at 0 0;", 5);
+        CHECK.fault(piece + "white ^at at 0 0;", 2);
+        CHECK.fault(piece + "white a ^0 0;", 2);
+        CHECK.fault(piece + "white a at ^3 0;", 4);
+        CHECK.fault(piece + "black a at 0 ^3;", 4);
+        CHECK.fault(piece + "black a at ^;", 2);
+        CHECK.fault(piece + "white a at 1 1;black a at 1 ^1;", 3);
+        CHECK.fault(piece + "white a at 1 1;black a at 1 ^1x;", 1);
+        CHECK.fault(piece + "white a at 1 1;black a at 1 ^1 ?", 3);
+        CHECK.fault(BOARD + "white ^a at 0 0;piece a;", 5);
+        CHECK.fault("board 3 by 5;piece a;" + twelve("a") + "^white a at 0 4;", 2);
+        CHECK.fault("board 3 by 5;piece a;" + twelve("a") + "^black b at 9 9;", 2);
     }
 
     private static void flashes() {
-        fault(BOARD + "flash ^;", 2);
-        fault(BOARD + "flash ^0;", 4);
-        fault(BOARD + "flash 1 ^1000;", 4);
-        fault(BOARD + "flash 1 2 3 4 5 6 7 8 9 10 11 12 ^13;", 2);
-        fault(BOARD + "flash 1 2 3 4 5 6 7 8 9 10 11 12 ^1000;", 2);
-        fault(BOARD + "flash 1 2 3 4 5 6 7 8 9 10 11 12 ^1x;", 1);
-        fault(BOARD + "flash 1;^flash 1;", 2);
-        fault(BOARD + "flash 1^", 2);
+        CHECK.fault(BOARD + "flash ^;", 2);
+        CHECK.fault(BOARD + "flash ^0;", 4);
+        CHECK.fault(BOARD + "flash 1 ^1000;", 4);
+        CHECK.fault(BOARD + "flash 1 2 3 4 5 6 7 8 9 10 11 12 ^13;", 2);
+        CHECK.fault(BOARD + "flash 1 2 3 4 5 6 7 8 9 10 11 12 ^1000;", 2);
+        CHECK.fault(BOARD + "flash 1 2 3 4 5 6 7 8 9 10 11 12 ^1x;", 1);
+        CHECK.fault(BOARD + "flash 1;^flash 1;", 2);
+        CHECK.fault(BOARD + "flash 1^", 2);
     }
 
     private static void allStays() {
@@ -236,27 +236,5 @@ public final class TextTest {
         CHECK.due("back(2)", x.back(2), -1);
         CHECK.due("at(0, 0)", x.at(0, 0), 0);
         CHECK.due("untell(0)", x.untell(0), false);
-    }
-
-    private static void sound(String text, int squares, int pieces, int men) {
-        StraitGame x = new StraitGame();
-        Check.put(x, text);
-        CHECK.due("game() of " + text, x.game(), men);
-        CHECK.due("fault(0) of " + text, x.fault(0), 0);
-        CHECK.due("fault(1) of " + text, x.fault(1), -1);
-        CHECK.due("about(0) of " + text, x.about(0), squares);
-        CHECK.due("about(1) of " + text, x.about(1), pieces);
-        CHECK.due("about(2) of " + text, x.about(2), men);
-    }
-
-    /** A ^ in the text marks the FAULT's place. */
-    private static void fault(String marked, int fault) {
-        StraitGame x = new StraitGame();
-        int place = marked.indexOf('^');
-        Check.put(x, marked.substring(0, place) + marked.substring(place + 1));
-        CHECK.due("game() of " + marked, x.game(), -1);
-        CHECK.due("fault(0) of " + marked, x.fault(0), fault);
-        CHECK.due("fault(1) of " + marked, x.fault(1), place);
-        CHECK.due("about(0) of " + marked, x.about(0), 0);
     }
 }
