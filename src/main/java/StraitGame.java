@@ -1196,9 +1196,11 @@ public final class StraitGame {
         }
 
         private void copyNights(int from, int to, int many) {
-            System.arraycopy(flasher, from, flasher, to, many);
-            System.arraycopy(number, from, number, to, many);
-            System.arraycopy(heard, from, heard, to, many);
+            for (int i = 0; i < many && i < MAX_NIGHTS; i++) {
+                flasher[to + i] = flasher[from + i];
+                number[to + i] = number[from + i];
+                heard[to + i] = heard[from + i];
+            }
         }
 
         /** The first NIGHT since which the BOARDS never were alike. */
@@ -1235,7 +1237,7 @@ public final class StraitGame {
         private Position[] next = new Position[MAX_GUESSES];
         private int count = 0;
         private int nextCount = 0;
-        private final Position trial = new Position();
+        private final Position supposed = new Position();
 
         Guess(Laws laws, Nights nights) {
             this.laws = laws;
@@ -1268,9 +1270,9 @@ public final class StraitGame {
                     note(now[i]);
                 }
                 if (doubted || nights.heard[night]) {
-                    trial.copyOf(now[i]);
-                    laws.make(trial, nights.flasher[night], nights.number[night]);
-                    note(trial);
+                    supposed.copyOf(now[i]);
+                    laws.make(supposed, nights.flasher[night], nights.number[night]);
+                    note(supposed);
                 }
             }
             turnOver();
@@ -1279,9 +1281,9 @@ public final class StraitGame {
         private void goOnByHeard(int night) {
             nextCount = 0;
             for (int i = 0; i < count; i++) {
-                trial.copyOf(now[i]);
-                if (laws.make(trial, nights.flasher[night], nights.number[night])) {
-                    note(trial);
+                supposed.copyOf(now[i]);
+                if (laws.make(supposed, nights.flasher[night], nights.number[night])) {
+                    note(supposed);
                 }
             }
             turnOver();

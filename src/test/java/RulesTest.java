@@ -31,6 +31,7 @@ public final class RulesTest {
         names();
         words(code);
         imports(code);
+        copies(code);
         sizes(code);
         fields();
         CHECK.end();
@@ -95,6 +96,25 @@ public final class RulesTest {
         Matcher m = Pattern.compile("import ([\\w.]+);").matcher(code);
         while (m.find()) {
             CHECK.due("import " + m.group(1), Set.of("java.util.Arrays", "java.util.ArrayList", "java.util.List").contains(m.group(1)), true);
+        }
+    }
+
+    /** Rule 4: the library copies and fills arrays of numbers alone. */
+    private static void copies(String code) {
+        Matcher m = Pattern.compile("(?:System|Arrays)\\.\\w+\\((\\w+), [^;]*;").matcher(code);
+        while (m.find()) {
+            int fields = 0;
+            for (Class<?> c : classes()) {
+                for (Field f : c.getDeclaredFields()) {
+                    if (f.getName().equals(m.group(1))) {
+                        fields++;
+                        Class<?> element = f.getType().getComponentType();
+                        boolean numbers = element != null && element.isPrimitive() && element != boolean.class;
+                        CHECK.due("numbers in " + m.group(), numbers, true);
+                    }
+                }
+            }
+            CHECK.due("a row that is known in " + m.group(), fields > 0, true);
         }
     }
 
