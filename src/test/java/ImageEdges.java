@@ -14,6 +14,7 @@ final class ImageEdges {
         imagesRefused();
         imagesAnew();
         imagesOfSixty();
+        imagesFull();
         backs();
         backsToLost();
         backsAlike();
@@ -80,6 +81,48 @@ final class ImageEdges {
         check.due("back(1)", x.back(1), 0);
         check.due("at(0, 0)", x.at(0, 0), 0);
         check.due("at(1, 0)", x.at(1, 0), 0);
+    }
+
+    /** Three BOXES of 60 NIGHTS each, unlike in their first and their last ones. */
+    private void imagesFull() {
+        check.says(28, "are kept in a BOX 0 .. 2");
+        StraitGame x = Check.play(KINGS);
+        blanks(x, 59);
+        x.night(0, 0, true);
+        check.due("image(0)", x.image(0), 60);
+        undone(x, 60);
+        x.night(0, 1, true);
+        blanks(x, 58);
+        x.night(1, 0, false);
+        check.due("image(1)", x.image(1), 60);
+        undone(x, 60);
+        x.night(0, 0, false);
+        blanks(x, 59);
+        check.due("image(2)", x.image(2), 60);
+        check.due("back(0)", x.back(0), 60);
+        check.book(x, 0, -1, -1, 0, 0);
+        check.book(x, 59, 0, 0, 1, 0);
+        check.due("at(1, 1)", x.at(1, 1), 0);
+        check.due("back(1)", x.back(1), 60);
+        check.book(x, 0, 0, 1, 1, 0);
+        check.book(x, 59, 1, 0, 0, 0);
+        check.due("since()", x.since(), 59);
+        check.due("back(2)", x.back(2), 60);
+        check.book(x, 0, 0, 0, 0, 0);
+        check.book(x, 59, -1, -1, 0, 0);
+        check.due("since()", x.since(), 0);
+    }
+
+    private static void blanks(StraitGame x, int many) {
+        for (int n = 0; n < many; n++) {
+            x.blank();
+        }
+    }
+
+    private static void undone(StraitGame x, int many) {
+        for (int n = 0; n < many; n++) {
+            x.undo();
+        }
     }
 
     private void imagesOfSixty() {
